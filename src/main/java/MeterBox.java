@@ -623,7 +623,6 @@ public final class MeterBox {
         void giveUp() {
             begun = false;
             escaped = false;
-            length = 0;
         }
 
         /** Takes the byte; answers whether it ends a request. */

@@ -15,7 +15,8 @@ public final class PlanTest {
         Check.due("first", x.plan(0, 3, 1439, 2), 1);
         Check.due("second", x.plan(0, 0, 0, 0), 2);
         Check.due("the same again", x.plan(0, 0, 5, 1), 2);
-        Check.due("the other plan", x.plan(1, 1, 0, 1), 1);
+        Check.due("the other plan", x.plan(1, 0, 0, 1), 1);
+        Check.due("the other plan", x.plan(1, 3, 0, 1), 2);
         Check.due("third", x.plan(0, 1, 0, 1), 3);
         Check.due("fourth", x.plan(0, 2, 0, 1), 4);
         Check.due("taken away", x.plan(0, 3, 0, -1), 3);

@@ -31,9 +31,26 @@ public final class PowerTest {
     }
 
     private static void beginsAnewWithoutAGoodSlot() {
-        MeterBox x = Bench.opened();
-        x.emergency();
-        x.power(false);
+        MeterBox opened = Bench.opened();
+        opened.power(false);
+        isAsAtFirst(opened);
+        MeterBox helped = Bench.opened();
+        helped.emergency();
+        helped.power(false);
+        isAsAtFirst(helped);
+        MeterBox torn = new MeterBox();
+        torn.cut(5);
+        Check.refused("torn", ArithmeticException.class, () -> torn.token(Bench.tokenOf(Bench.CREDIT, 9, 9)));
+        isAsAtFirst(torn);
+        MeterBox spread = new MeterBox();
+        spread.plan(0, 0, 1, 1);
+        spread.plan(0, 1, 3, 2);
+        Bench.draw(spread, 6);
+        spread.power(false);
+        isAsAtFirst(spread);
+    }
+
+    private static void isAsAtFirst(MeterBox x) {
         Check.due("none is good", x.power(true), 0);
         double[] values = {0.0, 0.0, 0.0, 5.0, 0.0};
         for (int i = 0; i < 5; i++) {
@@ -53,8 +70,14 @@ public final class PowerTest {
         x.use(230.0, 1.0, 1);
         Bench.draw(x, 5);
         x.save();
-        Bench.draw(x, 5);
+        x.use(300.0, 100.0, 1);
+        x.plan(0, 1, 3, 1);
+        x.use(300.0, 100.0, 1);
+        x.plan(0, 0, 1, 0);
+        x.plan(0, 1, 3, 0);
+        x.use(300.0, 100.0, 1);
         x.power(false);
+        x.plan(0, 1, 3, 2);
         Check.due("two are good", x.power(true), 2);
         Check.due("register 0", x.read(0), 3 / 1000.0);
         Check.due("register 1", x.read(1), 0.5);

@@ -72,6 +72,7 @@ public final class RequestTest {
         Check.due("at most 12", x.count(1), 12);
         Check.due("the oldest was dropped", Bench.event(x, 0), 20001);
         Check.due("in order", Bench.event(x, 5), 20006);
+        Check.due("in order", Bench.event(x, 10), 20011);
         Check.due("the latest", Bench.event(x, 11), 20012);
         Check.refused("not kept", UnsupportedOperationException.class, () -> Bench.event(x, 12));
         MeterBox y = new MeterBox();

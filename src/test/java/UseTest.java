@@ -76,7 +76,8 @@ public final class UseTest {
     private static void takesTheEdges() {
         MeterBox x = new MeterBox();
         Check.due("least", x.use(0.0, 0.0, 1), 1);
-        Check.due("minus nought is nought", x.use(-0.0, -0.0, 1), 1);
+        Check.due("minus nought is nought", x.use(-0.0, 0.0, 1), 1);
+        Check.due("not more than nought", x.read(4), 0.0);
         Check.due("greatest", x.use(400.0, 100.0, 300), 300);
         Check.due("highest", x.read(4), 40000.0);
         Check.due("TIME", x.count(6), 302);
