@@ -12,6 +12,7 @@ public final class RequestTest {
         goesOnWithoutBytes();
         takesEscapes();
         escapesTheReply();
+        makesLongReplies();
         refusesWrongNumbers();
         Check.end();
     }
@@ -191,6 +192,32 @@ public final class RequestTest {
         MeterBox x = new MeterBox();
         Bench.idle(x, time);
         Check.due("TIME", Bench.ask(x, 0, 5), time);
+    }
+
+    /** The numbers were searched for: most of their bytes, and some of their FCS, must be escaped. */
+    private static void makesLongReplies() {
+        MeterBox x = new MeterBox();
+        x.use(153.94535, 10.0, 1);
+        Check.due("16 bytes", Bench.send(x, Bench.frame(0, 4)), 16);
+        Check.due("HIGHEST", Bench.ask(x, 0, 4), 1539453);
+        MeterBox y = new MeterBox();
+        int left = 20954572;
+        for (int number = 1; left > 0; number++) {
+            int some = Math.min(left, 65535);
+            left -= some;
+            tokenThoughWornOut(y, Bench.tokenOf(Bench.CREDIT, number, some));
+        }
+        y.use(150.0, 1.0, 1);
+        Check.due("17 bytes", Bench.send(y, Bench.frame(0, 3)), 17);
+        Check.due("CREDIT", Bench.ask(y, 0, 3), 209550717);
+    }
+
+    private static void tokenThoughWornOut(MeterBox x, long token) {
+        try {
+            x.token(token);
+        } catch (UnsupportedOperationException e) {
+            // There are more tokens than savings; each has worked.
+        }
     }
 
     private static void refusesWrongNumbers() {
