@@ -11,10 +11,14 @@ public final class AnyCallTest {
 
     private static final Random RANDOM = new Random(20261115);
 
+    private static int calls;
+
     public static void main(String[] args) {
         for (int run = 0; run < 400; run++) {
             MeterBox x = new MeterBox();
-            for (int i = 0; i < 512; i++) {
+            calls = 0;
+            // Some of them are several calls, and an object is used for at most 512.
+            while (calls < 500) {
                 callAny(x);
             }
         }
@@ -30,6 +34,7 @@ public final class AnyCallTest {
     }
 
     private static void callAny(MeterBox x) {
+        calls++;
         switch (RANDOM.nextInt(16)) {
             case 0 -> only("plan", Set.of(ARGUMENT),
                 () -> x.plan(about(0, 1), about(0, 3), about(0, 1439), about(-1, 2)));
@@ -54,6 +59,7 @@ public final class AnyCallTest {
                 }
             });
             default -> only("count", Set.of(ARGUMENT, STATE), () -> {
+                calls++;
                 x.price(RANDOM.nextInt(3));
                 x.count(about(0, 10));
             });
@@ -64,12 +70,14 @@ public final class AnyCallTest {
         if (RANDOM.nextInt(4) == 0) {
             return RANDOM.nextLong() >> often(0, 24, 25);
         }
+        calls += 2;
         int last = x.count(0) == 1 ? x.count(9) : 0;
         return Bench.tokenOf(RANDOM.nextInt(4), Math.min(16383, last + RANDOM.nextInt(3)), RANDOM.nextInt(65536));
     }
 
     private static void sendQuietly(MeterBox x, int[] bytes) {
         for (int b : bytes) {
+            calls++;
             x.request(b);
         }
     }

@@ -5,11 +5,23 @@ final class Check {
     }
 
     private static int wrong;
+    private static String held = "";
 
     private Check() {
     }
 
+    /** Names the sentence of the document that the checks from here on hold the class to. */
+    static void sentence(String where, String quote) {
+        held = where + ", \"" + quote + "\": ";
+    }
+
     static void due(String what, long got, long want) {
+        if (got != want) {
+            tell(what + " answered " + got + ", due is " + want);
+        }
+    }
+
+    static void due(String what, boolean got, boolean want) {
         if (got != want) {
             tell(what + " answered " + got + ", due is " + want);
         }
@@ -36,7 +48,7 @@ final class Check {
 
     static void tell(String text) {
         wrong++;
-        System.out.println(text);
+        System.out.println(held + text);
     }
 
     /** To be called last by every main. */
