@@ -16,26 +16,29 @@ public final class Promise02EdgesTest {
 
     private static void takesDays() {
         Check.sentence(PROMISE, "day 0, 1");
-        Look.outOfRange("day", 0, 1, (x, n) -> x.plan(n, 1, 60, 2));
+        Look.outOfRange("day, ENTRY 1", 0, 1, (x, n) -> x.plan(n, 1, 180, 0));
+        Look.outOfRange("day, ENTRY 2", 0, 1, (x, n) -> x.plan(n, 2, 180, 0));
         Look.withinRange("day", 0, 1, n -> new MeterBox().plan(n, 1, 60, 2));
     }
 
     private static void takesEntries() {
         Check.sentence(PROMISE, "entry 0 .. 3");
-        Look.outOfRange("entry", 0, 3, (x, n) -> x.plan(0, n, 60, 2));
+        Look.outOfRange("entry of day 0", 0, 3, (x, n) -> x.plan(0, n, 180, 0));
         Look.withinRange("entry", 0, 3, n -> new MeterBox().plan(0, n, 60, 2));
-        Look.outOfRange("entry of day 1", 0, 3, (x, n) -> x.plan(1, n, 60, 2));
+        Look.outOfRange("entry of day 1", 0, 3, (x, n) -> x.plan(1, n, 180, 0));
     }
 
     private static void takesMinutes() {
         Check.sentence(PROMISE, "minute 0 .. 1439");
-        Look.outOfRange("minute", 0, 1439, (x, n) -> x.plan(0, 1, n, 2));
+        Look.outOfRange("minute, for none", 0, 1439, (x, n) -> x.plan(0, 1, n, 0));
+        Look.outOfRange("minute, for an ENTRY", 0, 1439, (x, n) -> x.plan(0, 2, n, 0));
         Look.withinRange("minute", 0, 1439, n -> new MeterBox().plan(0, 1, n, 2));
     }
 
     private static void takesTariffs() {
         Check.sentence(PROMISE, "tariff 0 .. 2, or -1: none");
-        Look.outOfRange("tariff", -1, 2, (x, n) -> x.plan(0, 1, 60, n));
+        Look.outOfRange("tariff, for none", -1, 2, (x, n) -> x.plan(1, 0, 180, n));
+        Look.outOfRange("tariff, for an ENTRY", -1, 2, (x, n) -> x.plan(1, 1, 180, n));
         Look.withinRange("tariff", -1, 2, n -> new MeterBox().plan(0, 1, 60, n));
         for (int tariff = 0; tariff <= 2; tariff++) {
             MeterBox x = new MeterBox();

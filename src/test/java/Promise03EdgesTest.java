@@ -73,6 +73,9 @@ public final class Promise03EdgesTest {
             }
             Check.due("REGISTER 0, MINUTE by MINUTE", x.read(0), register);
         }
+        Look.changes("nothing else", Rich::closed, x -> Bench.draw(x, 2),
+            "count(6) = 124", "read(2) = 0.75", "read(3) = 4.1875");
+        Look.changes("nothing else, open", Rich::open, x -> Bench.draw(x, 3), "count(6) = 433");
     }
 
     private static void notesHighVoltage() {
@@ -135,7 +138,10 @@ public final class Promise03EdgesTest {
         y.cut(0);
         Check.due("up to the day's last minute", y.use(230.0, 0.0, 9), 9);
         Check.due("ON", y.count(0), 1);
+        Check.refused("a number out of range comes first", IllegalArgumentException.class,
+            () -> y.use(230.0, 0.0, 301));
         Check.refused("the next MINUTE", ArithmeticException.class, () -> y.use(230.0, 0.0, 1));
+        Check.refused("OFF", IllegalStateException.class, () -> y.use(230.0, 0.0, 1));
     }
 
     private static void goesOnBehindTheBeginningOfADay() {

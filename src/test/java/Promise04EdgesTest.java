@@ -20,6 +20,8 @@ public final class Promise04EdgesTest {
         refusesBeforeSaving();
         closesTheRelayAtNought();
         closesOnlyAnOpenRelay();
+        closesAtNoughtInAnEmergencyToo();
+        closesWhatIsLoadedAtNought();
         isSavedBeforeItIsClosed();
         answersTheKind();
         Check.end();
@@ -108,6 +110,12 @@ public final class Promise04EdgesTest {
 
     private static void isSaved() {
         Check.sentence(PROMISE, "and it is SAVED");
+        Look.changes("CREDIT 0.0", Rich::uncut, x -> x.token(token(0, 8, 0)), Rich.savedRows(8, "count(9) = 8"));
+        Look.changes("PRICES", Rich::uncut, x -> x.token(token(1, 16383, 7)),
+            Rich.savedRows(16383, "count(9) = 16383", "price(1) = 0.002"));
+        Look.changes("CLEAR", Rich::uncut, x -> x.token(token(2, 9, 7)),
+            Rich.savedRows(9, "count(9) = 9", "read(4) = 0.0", "count(1) = 0",
+                "EVENT 0 = UnsupportedOperationException", "EVENT 1 = UnsupportedOperationException"));
         for (int kind = 0; kind <= 2; kind++) {
             MeterBox x = new MeterBox();
             Bench.draw(x, 1);
@@ -230,6 +238,46 @@ public final class Promise04EdgesTest {
         z.token(token(2, 2, 0));
         Check.due("CLEAR with a CREDIT below 0.0", z.count(7), 0);
         Check.due("no EVENT", z.count(1), 0);
+    }
+
+    /** It is open with a CREDIT below the limit by less than a thousandth, which SAVING and LOADING cut off. */
+    private static MeterBox loadedAtTheLimit(MeterBox x) {
+        x.use(100.0, 0.24, 1);
+        Check.due("open", x.count(7), 0);
+        x.save();
+        x.power(false);
+        x.power(true);
+        Check.due("open", x.count(7), 0);
+        return x;
+    }
+
+    private static void closesAtNoughtInAnEmergencyToo() {
+        Check.sentence(PROMISE, "Then, if the RELAY is open and the CREDIT 0.0 or more, it is closed (EVENT 5).");
+        MeterBox x = Bench.opened();
+        x.emergency();
+        Bench.draw(x, 7);
+        loadedAtTheLimit(x);
+        Check.due("CREDIT", x.read(3), -2.0);
+        Check.due("EMERGENCY", x.count(8), 1);
+        x.token(token(1, 1, 0));
+        Check.due("-2.0 is not 0.0 or more", x.count(7), 0);
+        x.token(token(0, 2, 200));
+        Check.due("0.0 is", x.count(7), 1);
+        Check.due("EVENT 5", Bench.event(x, 0), 50389);
+    }
+
+    private static void closesWhatIsLoadedAtNought() {
+        Check.sentence(PROMISE, "Then, if the RELAY is open and the CREDIT 0.0 or more, it is closed (EVENT 5).");
+        for (int kind = 0; kind <= 2; kind++) {
+            MeterBox x = new MeterBox();
+            Bench.idle(x, 360);
+            Bench.draw(x, 20);
+            loadedAtTheLimit(x);
+            Check.due("CREDIT", x.read(3), 0.0);
+            x.token(token(kind, 1, 0));
+            Check.due("closed by kind " + kind, x.count(7), 1);
+            Check.due("EVENT 5", Bench.event(x, 0), 50381);
+        }
     }
 
     private static void isSavedBeforeItIsClosed() {

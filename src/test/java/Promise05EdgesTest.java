@@ -50,6 +50,16 @@ public final class Promise05EdgesTest {
         Bench.draw(x, 20);
         x.use(1.0e-9, 1.0e-9, 1);
         Check.due("below 0.0 by little", x.emergency(), 1);
+        Look.refused("open, but loaded with 0.0", UNSUPPORTED, () -> {
+            MeterBox y = new MeterBox();
+            Bench.idle(y, 360);
+            Bench.draw(y, 20);
+            y.use(100.0, 0.24, 1);
+            y.save();
+            y.power(false);
+            y.power(true);
+            return y;
+        }, MeterBox::emergency);
         // SAVED with an open RELAY and loaded, it is open with a CREDIT above 0.0.
         Look.refused("open, but 1.0", UNSUPPORTED, () -> {
             MeterBox y = Bench.opened();

@@ -16,11 +16,7 @@ public final class Promise06EdgesTest {
         Check.sentence(PROMISE, "It is SAVED.");
         Look.changes("the first", MeterBox::new, MeterBox::save, "count(2) = 1", "flash(0, 0) = 1",
             "flash(0, 1) = 5000", "flash(0, 2) = 0", "flash(0, 3) = 0", "flash(0, 4) = 0", "flash(0, 5) = 55008");
-        MeterBox x = new MeterBox();
-        x.use(300.0, 100.0, 1);
-        x.save();
-        Check.due("EVENTS stay", x.count(1), 1);
-        Check.due("HIGHEST stays", x.read(4), 30000.0);
+        Look.changes("the sixth", Rich::uncut, MeterBox::save, Rich.savedRows(7));
     }
 
     private static void answersWordNought() {

@@ -33,7 +33,7 @@ public final class Promise07EdgesTest {
             for (int i = 0; i < 6; i++) {
                 Check.due("word " + i + " of " + n, x.flash(1, i) != -1, i < n);
             }
-            Look.changes("nothing else", MeterBox::new, y -> y.cut(n), "CUT = " + n);
+            Look.changes("nothing else", Rich::uncut, y -> y.cut(n), "CUT = " + n);
         }
         MeterBox z = new MeterBox();
         z.save();

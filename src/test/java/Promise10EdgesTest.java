@@ -75,7 +75,16 @@ public final class Promise10EdgesTest {
 
     private static void changesNothing() {
         Check.sentence(PROMISE, "Byte i of the latest REPLY");
-        Look.changes("ON", Rich::closed, x -> x.reply(3));
+        for (int i = 0; i < 13; i++) {
+            int at = i;
+            Look.changes("reply(" + i + ")", Rich::closed, x -> x.reply(at));
+        }
+        Look.changes("all of it", Rich::closed, x -> {
+            int i = 0;
+            do {
+                i++;
+            } while (x.reply(i) != 126);
+        });
         Look.changes("within an escape", Rich::escaped, x -> x.reply(3));
         Look.changes("OFF", Rich::off, x -> x.reply(3));
         for (var made : Rich.all()) {

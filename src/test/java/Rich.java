@@ -39,11 +39,17 @@ final class Rich {
         return x;
     }
 
-    /** A REPLY of WEAR, a CUT of 3, a REQUEST begun with a 0. */
-    private static MeterBox ended(MeterBox x) {
+    /** A REPLY of WEAR, a REQUEST begun with a 0. */
+    private static MeterBox asked(MeterBox x) {
         Bench.ask(x, 1, 0);
-        x.cut(3);
         Bench.send(x, 126, 0);
+        return x;
+    }
+
+    /** The same, and a CUT of 3. */
+    private static MeterBox ended(MeterBox x) {
+        asked(x);
+        x.cut(3);
         return x;
     }
 
@@ -59,7 +65,24 @@ final class Rich {
         return ended(begun());
     }
 
-    /** The same, and a 125 has come in the REQUEST. */
+    /** The same, but no CUT is set. */
+    static MeterBox uncut() {
+        return asked(begun());
+    }
+
+    /** What a SAVING changes there, all but WEAR, of which there is no more: rows for Look. */
+    static String[] savedRows(int last, String... more) {
+        long[] w = {6, 488 * 1000000000000L + 4312, 250, 250, last * 1000000000L + 250};
+        String[] rows = java.util.Arrays.copyOf(more, more.length + 6);
+        for (int i = 0; i < 5; i++) {
+            rows[more.length + i] = "flash(5, " + i + ") = " + w[i];
+        }
+        rows[more.length + 5] = "flash(5, 5) = "
+            + (7 * w[0] + 11 * w[1] + 13 * w[2] + 17 * w[3] + 19 * w[4] + 1);
+        return rows;
+    }
+
+    /** The meter closed, and a 125 has come in the REQUEST. */
     static MeterBox escaped() {
         MeterBox x = closed();
         x.request(125);

@@ -8,6 +8,7 @@ public final class TermsFlashEdgesTest {
         isEmptyAtFirst();
         hasNoWearAtFirst();
         isGoodWithItsSum();
+        isNotGoodEmpty();
         countsFromOne();
         countsOnFromTheGreatestGoodOne();
         cutsToALong();
@@ -68,6 +69,17 @@ public final class TermsFlashEdgesTest {
             tear(x, words);
             Check.due("torn after " + words, x.power(true), 1);
         }
+    }
+
+    private static void isNotGoodEmpty() {
+        Check.sentence(TERMS, "and word 0 is above 0");
+        MeterBox x = new MeterBox();
+        x.power(false);
+        Check.due("never written", x.power(true), 0);
+        MeterBox y = saved(12);
+        tear(y, 0);
+        Check.due("ERASED", y.flash(0, 0), -1);
+        Check.due("nine of twelve", y.power(true), 9);
     }
 
     private static void countsFromOne() {
@@ -135,7 +147,7 @@ public final class TermsFlashEdgesTest {
     }
 
     private static void addsTimeRelayAndEmergency() {
-        Check.sentence(TERMS, "to word 1 1000000000000 times (TIME * 4");
+        Check.sentence(TERMS, "to word 1 1000000000000 times (TIME * 4 plus 1 if the RELAY is open plus 2 if EMERGENCY is used)");
         MeterBox x = new MeterBox();
         x.save();
         Check.due("TIME 0, closed, not used", x.flash(0, 1), 5000);

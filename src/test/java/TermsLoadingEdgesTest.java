@@ -54,7 +54,7 @@ public final class TermsLoadingEdgesTest {
     }
 
     private static void dividesByAThousand() {
-        Check.sentence(TERMS, "CREDIT and REGISTERS are the words' as doubles, divided by 1000.0");
+        Check.sentence(TERMS, "CREDIT and REGISTERS are the words' as doubles, divided by 1000.0, what was added taken off");
         MeterBox x = new MeterBox();
         x.plan(0, 0, 1, 1);
         x.plan(0, 1, 2, 2);

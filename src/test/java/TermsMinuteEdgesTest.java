@@ -30,6 +30,8 @@ public final class TermsMinuteEdgesTest {
     private static void keepsTheHighest() {
         Check.sentence(TERMS, "HIGHEST is p if that is more");
         MeterBox x = new MeterBox();
+        x.use(-0.0, 2.0, 1);
+        Check.due("-0.0 is not more than 0.0", x.read(4), 0.0);
         x.use(100.0, 2.0, 1);
         Check.due("more than 0.0", x.read(4), 200.0);
         x.use(Math.nextDown(100.0), 2.0, 1);

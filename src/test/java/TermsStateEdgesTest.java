@@ -12,6 +12,7 @@ public final class TermsStateEdgesTest {
         isNotInEmergencyAtFirst();
         keepsPrices();
         keepsPlans();
+        answersTheLastCall();
         Check.end();
     }
 
@@ -115,5 +116,28 @@ public final class TermsStateEdgesTest {
             }
         }
         Check.due("none again", x.count(10), 0);
+    }
+
+    private static void answersTheLastCall() {
+        Check.sentence("What it is", "An object is used for at most 512 calls after it has been made");
+        MeterBox x = new MeterBox();
+        for (int i = 1; i <= 510; i++) {
+            x.use(0.0, 0.0, 300);
+        }
+        Check.due("the 511th call", x.count(6), 153000);
+        Check.due("the 512th call", x.use(0.0, 0.0, 300), 300);
+        MeterBox y = new MeterBox();
+        for (int i = 1; i <= 511; i++) {
+            tokenThoughWornOut(y, Bench.tokenOf(Bench.CREDIT, i, 100));
+        }
+        Check.due("the 512th call", y.read(3), 516.0);
+    }
+
+    private static void tokenThoughWornOut(MeterBox x, long token) {
+        try {
+            x.token(token);
+        } catch (UnsupportedOperationException e) {
+            // There are more tokens than savings; each has worked.
+        }
     }
 }

@@ -108,6 +108,12 @@ public final class TermsTokensEdgesTest {
             m.token(Bench.tokenOf(Bench.CREDIT, 1, x));
             Check.due("x " + x, m.read(3), -2.0 + x / 100.0);
         }
+        for (int x = 0; x < 300; x++) {
+            MeterBox m = new MeterBox();
+            Bench.draw(m, 20);
+            m.token(Bench.tokenOf(Bench.CREDIT, 1, x));
+            Check.due("to 0.0: x " + x, m.read(3), x / 100.0);
+        }
         Look.changes("nothing else", () -> Bench.opened(), x -> x.token(Bench.tokenOf(Bench.CREDIT, 3, 24)),
             "read(3) = -0.010000000000000009", "count(9) = 3", "count(2) = 1", "flash(0, 0) = 1",
             "flash(0, 1) = 1524999999999990", "flash(0, 2) = 5250", "flash(0, 3) = 0", "flash(0, 4) = 3000000000",
