@@ -51,6 +51,10 @@ final class Check {
         System.out.println(held + text);
     }
 
+    static boolean hasFailed() {
+        return wrong > 0;
+    }
+
     /** To be called last by every main. */
     static void end() {
         if (wrong > 0) {

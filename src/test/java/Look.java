@@ -42,6 +42,10 @@ final class Look {
     /** A number below the least, above the greatest, or at the ends of int is refused before all else. */
     static void outOfRange(String what, int least, int greatest, NumberCall call) {
         for (int number : new int[] {least - 1, greatest + 1, Integer.MIN_VALUE, Integer.MAX_VALUE}) {
+            // A class that takes the first wrong number might be busy for hours with the greatest int.
+            if (Check.hasFailed()) {
+                return;
+            }
             for (Supplier<MeterBox> made : Rich.all()) {
                 refused(what + " " + number, IllegalArgumentException.class, made, x -> call.go(x, number));
             }
