@@ -5,9 +5,9 @@ import java.util.List;
 import java.util.NoSuchElementException;
 
 /**
- * The document read a second time, sentence by sentence and with no thought of thrift; ModelTest
- * compares the class with it. It shares no line with the class, so that a slip in one is seen in the
- * other.
+ * The document read a second time, with no thought of thrift; ModelTest compares the class with it.
+ * It calls nothing of the class, so that a slip in one is seen in the other; but both take the unclear
+ * places of the document alike, as README.md tells.
  */
 final class Model {
     private record Entry(int minute, int tariff) {
